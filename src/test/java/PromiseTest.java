@@ -212,7 +212,8 @@ public final class PromiseTest {
         due("far(1, 2)", x.far(1, 2), 3);
         due("BATTERY", x.of(0, 2), 99);
         due("blanks at both ends", read(x, "   house 3 ;   "), 1);
-        due("the last door counts", read(x, "house 0;door 0 1 9;door 1 0 4;"), 3);
+        due("the last door counts", read(x, "house 0;door 0 1 9;door 1 0 4;door 7 6 2;"), 4);
+        due("far(6, 7)", x.far(6, 7), 2);
         due("far(0, 1)", x.far(0, 1), 4);
         due("six alarms", read(x, "house 0;alarm 0 0 0;alarm 1 1 1;alarm 2 2 2;alarm 3 3 3;alarm 4 4 4;alarm 5 5 5;down 5;down 5;"), 9);
         due("count(0)", x.count(0), 6);
@@ -236,6 +237,8 @@ public final class PromiseTest {
             {"house 1;alarm 0 0 100;", 18}, {"house 1;alarm 0 0 99", 20}, {"house 1;down 0;", 13}, {"house 1;down ;", 13},
             {"house 1;down", 12}, {"house 1;alarm 0 0 0;down 1;", 25}, {"house 1;alarm 0 0 0;down 0 0;", 27},
             {"house 1;alarm 0 0 0;down 99;", 25}, {"house 1;\n", 8}, {"house\t1;", 5}, {"house 1;door 0 1 2#", 18},
+            {"house 1;door", 12}, {"house 1;door 0", 14}, {"house 1;door 0 1 2", 18}, {"house 1;alarm", 13}, {"house 1;alarm 0", 15},
+            {"house 1;alarm 0 0", 17}, {"house 1;alarm 0 0 0;down 0", 26}, {"mouse 1;", 0}, {"house 1;floor 0 1 2;", 8},
             {six + "alarm", 80}, {six + "alarm 0 0 0;", 80}, {six + "down 6;", 85}, {six + " alarm", 81}};
         long before = x.digest();
         for (Object[] f : faults) {
@@ -593,6 +596,7 @@ public final class PromiseTest {
         due("next(1, 0)", x.next(1, 0), 7);
         due("next(2, 1)", x.next(2, 1), -1);
         due("next(2, 0)", x.next(2, 0), -1);
+        due("next(7, 0)", x.next(7, 0), -1);
         x.waits(1);
         due("next(0, 0)", x.next(0, 0), 40);
         due("next(1, 1)", x.next(1, 1), 6);
@@ -651,6 +655,7 @@ public final class PromiseTest {
             x.alarm(0, r, 99);
         }
         // In the middle of three on a chain all three come through unlike ROOMS.
+        due("the first alone", x.sure(1, 0), 0);
         due("one", x.sure(8, 0), 0);
         due("one, ROOM", x.sure(8, 1), 0);
         due("two", x.sure(0b000011, 0), 1);
@@ -681,6 +686,14 @@ public final class PromiseTest {
         due("told by how LOUD, ROOM", y.sure(5, 1), 6);
         due("two of three alike", y.sure(7, 0), -1);
         due("NONE is no refusal", y.status(0) + y.status(1) + y.status(2), 0);
+        BeepHouse z = chain(1);
+        z.alarm(0, 0, 99);
+        due("the only one", z.sure(1, 0), 0);
+        z.alarm(0, 1, 99);
+        z.alarm(0, 1, 99);
+        due("the last two alike", z.sure(6, 0), -1);
+        due("the last two alike among three", z.sure(7, 0), -1);
+        due("the first apart", z.sure(5, 0), 1);
     }
 
     private static void way() {
@@ -730,6 +743,11 @@ public final class PromiseTest {
         due("not joined, wrong", y.way(-2), -10);
         y.battery(1, 99);
         due("joined to all that BEEP", y.way(-1), 0);
+        y.battery(0, 99);
+        y.battery(1, 0);
+        due("the only one not joined", y.way(-1), -1);
+        y.battery(0, 0);
+        y.battery(1, 99);
         y.battery(1, 22);
         due("b less c less than 20", y.way(-1), -1);
         y.battery(1, 23);
@@ -764,6 +782,11 @@ public final class PromiseTest {
         due("no ALARM", x.beside(), 0);
         x.alarm(3, 4, 99);
         due("one", x.beside(), 4);
+        BeepHouse y = new BeepHouse();
+        y.alarm(0, 1, 99);
+        due("in 1", y.beside(), 1);
+        y.alarm(0, 0, 99);
+        due("in 0 as many as in 1", y.beside(), 0);
         x.alarm(0, 7, 99);
         due("of like ones the least", x.beside(), 4);
         x.door(4, 5, 7);
@@ -841,6 +864,18 @@ public final class PromiseTest {
         y.alarm(0, 5, 99);
         y.alarm(3, 5, 99);
         due("HEARD or not", y.stand(), 4);
+        BeepHouse z = new BeepHouse();
+        z.door(1, 2, 1);
+        z.alarm(0, 1, 99);
+        z.alarm(0, 2, 99);
+        due("in 1 apart, in 0 not", z.stand(), 1);
+        z.alarm(0, 2, 99);
+        z.alarm(0, 2, 99);
+        due("three alike, one apart", z.stand(), 1);
+        BeepHouse w = chain(1);
+        w.alarm(0, 1, 99);
+        w.alarm(0, 0, 99);
+        due("in 0 apart already", w.stand(), 0);
     }
 
     private static void is() {
@@ -987,6 +1022,7 @@ public final class PromiseTest {
         x.house();
         x.from(0);
         due("an IMAGE in the place of one", x.count(1), 21);
+        anotherHouseComesBack();
         BeepHouse y = new BeepHouse();
         y.image(1);
         due("from(0): none was kept", y.from(0), -3);
@@ -997,6 +1033,38 @@ public final class PromiseTest {
         y.from(1);
         due("THE FRACTION stays, above", y.part(0), 1);
         due("THE FRACTION stays, below", y.part(1), 2);
+    }
+
+    private static void anotherHouseComesBack() {
+        BeepHouse x = chain(2);
+        for (int k = 0; k < 6; k++) {
+            x.alarm(k, k + 1, 10 + k);
+            x.note(k, 6 - k);
+        }
+        for (int i = 0; i < 4; i++) {
+            x.battery(i, 80 + i);
+            x.waits(1);
+        }
+        long kept = x.digest();
+        int answers = x.heard(3, 0) + 100 * x.through(0, 5) + 1000 * x.far(0, 7);
+        x.image(0);
+        x.house();
+        for (int k = 0; k < 6; k++) {
+            x.alarm(5 - k, 6 - k, 50);
+            x.note(7, 7);
+            x.door(k, k + 1, 9);
+            x.cold(k);
+        }
+        x.far(0, 7);
+        x.from(0);
+        due("all of another HOUSE comes back", x.digest(), kept);
+        due("and answers as it did", x.heard(3, 0) + 100 * x.through(0, 5) + 1000 * x.far(0, 7), answers);
+        for (int i = 3; i >= 0; i--) {
+            due("undo() of SECONDS", x.undo(), i);
+            due("undo() of BATTERY", x.undo(), i);
+            due("BATTERY", x.of(i, 2), 10 + i);
+        }
+        due("undo()", x.undo(), -3);
     }
 
     private static void status() {
