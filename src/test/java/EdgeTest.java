@@ -320,6 +320,11 @@ public final class EdgeTest {
         due("no ALARMS", new BeepHouse().house(), 0);
         due("an empty TEXT", new BeepHouse().clear(), 0);
         due("no NOTES", new BeepHouse().forget(), 0);
+        BeepHouse longUsed = new BeepHouse();
+        for (int i = 0; i < 511; i++) {
+            longUsed.waits(1);
+        }
+        due("at most 512 calls: the 512th", longUsed.count(1), 511);
         BeepHouse used = rich();
         due("one object knows nothing of another", new BeepHouse().digest() == used.digest() ? 1 : 0, 0);
         due("NONE", BeepHouse.NONE, -1);
@@ -599,6 +604,8 @@ public final class EdgeTest {
         fault("a word that is none: a letter less", "hous 1;", 0);
         fault("a word that is none: a letter more", "housee 1;", 0);
         fault("a word that is none: another letter", "houze 1;", 0);
+        fault("a word that is none: another first letter", "mouse 1;", 0);
+        fault("a word that is none: another last letter", "housy 1;", 0);
         fault("a word that is none: doo", "house 1;doo 0 1 2;", 8);
         fault("a word that is none: doors", "house 1;doors 0 1 2;", 8);
         fault("a word that is none: alar", "house 1;alar 0 0 0;", 8);
@@ -685,6 +692,12 @@ public final class EdgeTest {
         z.alarm(0, 0, 0);
         due("an ALARM of the house that was is none of the new one", z.read(), -23);
         due("the same again, when it is read again", typed(z, "house 1;door 0 1 2;").read() * 10 + z.read(), 22);
+        looks("all stays, behind a HOUSE that was read, too", () -> {
+            BeepHouse y = typed(rich(), "house 7;door 0 1 2;alarm 4 3 2;");
+            y.read();
+            y.waits(5);
+            return typed(y, "house 1;door 0 1 9;down 0;");
+        }, y -> y.read(), -10 - 24, COUNTS_NOTHING);
     }
 
     // ------------------------------------------------------------------ 8 to 15: seconds
@@ -1223,6 +1236,14 @@ public final class EdgeTest {
         due("and only there", x.sure(63, 1), 7);
         due("once, of two of them", x.sure(3, 0), 1);
         due("of two the least", x.sure(3, 1), 0);
+        BeepHouse w = withAlarms(3, 1, 2, 3, 1);
+        w.door(0, 1, 1);
+        w.door(0, 2, 1);
+        w.door(0, 3, 1);
+        due("three come through unlike ROOMS", w.sure(7, 0) * 10 + w.sure(7, 1), 10);
+        due("the 4th as one of them: it can not be known", w.sure(15, 0), -1);
+        due("the others all the same", w.sure(14, 0) * 10 + w.sure(14, 1), 10);
+        due("the least ROOM: by the one that is HEARD there", withAlarms(3, 1, 2, 0).sure(5, 1), 0);
         for (int more = -1; more <= 1; more++) {
             BeepHouse y = apart(8 + more);
             y.alarm(3, 7, 99);
@@ -1539,7 +1560,8 @@ public final class EdgeTest {
         promise = 31;
         BigInteger times = BigInteger.valueOf(1103515245);
         BigInteger most = BigInteger.valueOf(2147483648L);
-        for (int seed : new int[] {0, 1, 2, 12345, 500000, 999998, 999999}) {
+        // In the first night of 959 and of 1403 X lies so that a divisor one less would tell another COLD.
+        for (int seed : new int[] {0, 1, 959, 1403, 12345, 500000, 999998, 999999}) {
             for (int n : new int[] {0, 1, 2, 59, 60}) {
                 int[][] often = new int[8][10];
                 BigInteger v = BigInteger.valueOf(seed);
@@ -1629,9 +1651,16 @@ public final class EdgeTest {
             for (int n = 1; n <= 9; n++) {
                 x.battery(n % 6, n);
             }
+            x.far(0, 7);
             due("it goes on from one", x.from(i), 1);
             due("all is as it was, and what may be undone", seen(x).equals(seen(y)) ? 1 : 0, 1);
         }
+        BeepHouse w = chain(2);
+        w.image(0);
+        w.door(0, 1, 9);
+        due("DOORS told behind it", w.far(0, 1), 9);
+        w.from(0);
+        due("DOORS as they were", w.far(0, 1), 2);
         BeepHouse z = withAlarms(0, 0);
         z.cold(1);
         z.image(0);
