@@ -26,8 +26,10 @@ public final class EdgeTest {
     private static final int COUNTS_NOTHING = -1;
     private static final int[] LOUD = {20, 20, 40, 8, 9, 20};
 
+    private static final int PROMISES = 37;
+
+    private static final int[] tested = new int[PROMISES + 1];
     private static int wrong = 0;
-    private static int tested = 0;
     private static int promise = 0;
 
     public static void main(String[] args) {
@@ -36,7 +38,12 @@ public final class EdgeTest {
         beeps();
         whichItIs();
         whatThereIs();
-        System.out.println(wrong == 0 ? "EdgeTest: " + tested + " answers at the bounds are due" : "EdgeTest: " + wrong + " answers are wrong");
+        int all = 0;
+        for (promise = 1; promise <= PROMISES; promise++) {
+            all += tested[promise];
+            due("it has tests", tested[promise] > 0 ? 1 : 0, 1);
+        }
+        System.out.println(wrong == 0 ? "EdgeTest: " + all + " answers at the bounds are due" : "EdgeTest: " + wrong + " answers are wrong");
         if (wrong != 0) {
             System.exit(1);
         }
@@ -125,7 +132,7 @@ public final class EdgeTest {
     // ------------------------------------------------------------------ what the tests share
 
     private static void due(String sentence, long got, long want) {
-        tested++;
+        tested[promise]++;
         if (got != want) {
             wrong++;
             System.out.println("promise " + promise + ": " + sentence + ": answered " + got + ", due is " + want);
