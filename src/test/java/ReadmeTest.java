@@ -9,18 +9,18 @@ import java.util.regex.Matcher;
 import java.util.regex.Pattern;
 import java.util.stream.Stream;
 
-/** README.md: its examples answer what they say, it has every call of the document's face and every test. */
+/** README.md: its examples answer what they say, it has every call of the face and every test. */
 public final class ReadmeTest {
     private static final Pattern MADE = Pattern.compile("BeepHouse x = new BeepHouse\\(\\);");
     private static final Pattern TYPED = Pattern.compile("for \\(char c : \"([^\"]*)\"\\.toCharArray\\(\\)\\) x\\.type\\(c\\);");
     private static final Pattern CALLED = Pattern.compile("x\\.(\\w+)\\(([^)]*)\\); +// (-?\\d+): .*");
-    private static final Pattern IN_THE_FACE = Pattern.compile("    public (?:int|long) (\\w+)\\(([^)]*)\\);");
+    private static final Pattern IN_THE_FACE = Pattern.compile("    public (?:int|long) (\\w+)\\(([^)]*)\\) \\{");
     private static int wrong = 0;
 
     public static void main(String[] args) throws IOException, ReflectiveOperationException {
         String readme = Files.readString(Path.of("README.md"));
         examples(readme);
-        calls(readme, Files.readString(Path.of("../shared/DOC.md")));
+        calls(readme, Files.readString(Path.of("src/main/java/BeepHouse.java")));
         tests(readme);
         System.out.println(wrong == 0 ? "ReadmeTest: README.md tells how it is" : "ReadmeTest: " + wrong + " faults in README.md");
         if (wrong != 0) {
@@ -72,16 +72,16 @@ public final class ReadmeTest {
         throw new NoSuchMethodException(name);
     }
 
-    /** A call is told by the names that the document gives its numbers. */
-    private static void calls(String readme, String document) {
-        Matcher m = IN_THE_FACE.matcher(document);
+    /** That the class has just the document's face is for RulesTest to look at. */
+    private static void calls(String readme, String source) {
+        Matcher m = IN_THE_FACE.matcher(source);
         int found = 0;
         while (m.find()) {
             found++;
             String call = m.group(1) + "(" + m.group(2).replace("int ", "") + ")";
             due(readme.contains("\n| `" + call + "` | "), "the call " + call + " is left out");
         }
-        due(found == 36, "the document's face has " + found + " calls");
+        due(found == 36, "the face has " + found + " calls");
     }
 
     private static void tests(String readme) throws IOException {
