@@ -8,7 +8,8 @@ import java.util.regex.Pattern;
 
 /**
  * Promise 7, without a second parser: a TOKEN can not stand there if no TEXT that goes on behind it is a HOUSE.
- * All rows of up to four TOKENS behind each of some beginnings, with and without blanks between.
+ * Behind each of some beginnings up to four TOKENS, with and without blanks between: all rows as long as each
+ * TOKEN can stand, and behind one that can not just one more; then every byte in every place of one TEXT.
  */
 public final class TextTest {
     private static final String[] TOKENS = {"house", "door", "alarm", "down", "dow", "0", "1", "07", "8", "9", "10", "99", "100", ";", "-"};
